@@ -743,7 +743,7 @@ public final class HallBuilds {
         private int at;
         private boolean faulty;
         // The order that was read last.
-        private char kind;
+        private int kind;
         private int first, second, third, base;
 
         OrderReader(Pad pad) {
