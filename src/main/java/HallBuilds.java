@@ -33,16 +33,16 @@ public final class HallBuilds {
     private final Hall trial;
     private final History history;
     private final Slots slots;
-    private final Pad pad;
     private final OrderReader reader;
+    private final Pad pad;
 
     public HallBuilds() {
         hall = new Hall();
         trial = new Hall();
         history = new History();
         slots = new Slots();
-        pad = new Pad();
-        reader = new OrderReader(pad);
+        reader = new OrderReader();
+        pad = reader.pad;
     }
 
     // ---- changes
@@ -739,16 +739,12 @@ public final class HallBuilds {
 
     /** Reads the pad from left to right; behind a fault it stays where the fault is. */
     private static final class OrderReader {
-        private final Pad pad;
+        private final Pad pad = new Pad();
         private int at;
         private boolean faulty;
         // The order that was read last.
         private int kind;
         private int first, second, third, base;
-
-        OrderReader(Pad pad) {
-            this.pad = pad;
-        }
 
         void start() {
             at = 0;
