@@ -1,13 +1,17 @@
-/** Random runs of calls, each answered by HallBuilds and by PlainHall alike. */
+/** Random runs of at most 512 calls, each answered by HallBuilds and by PlainHall alike. */
 public final class ModelTest {
-    private static final int RUNS = 2500;
+    private static final int RUNS = 5000;
     private static final int MOST_CALLS = 512;
+    // A text of four orders is put with this many calls at most.
+    private static final int CALLS_OF_A_TEXT = 10;
+    private static final int CALLS_OF_A_LOOK = 300;
     private static final int NONE = -6;
 
     private final Check check = new Check("ModelTest");
     private long seed;
     private HallBuilds hall;
     private PlainHall plain;
+    private int asked;
     // How a run likes to go: with how many hours at once, and how often stands, orders and the end come.
     private int longHours, standsOften, textsOften, endOften;
     private String call;
@@ -26,15 +30,23 @@ public final class ModelTest {
         standsOften = 5 + below(40);
         textsOften = below(40);
         endOften = below(3) == 0 ? 6 : below(3);
-        int calls = 20 + below(run % 50 == 0 ? MOST_CALLS - 20 : 130);
+        asked = 0;
+        int calls = run % 50 == 0 ? MOST_CALLS : 20 + below(130);
+        int glances = below(4);
         StringBuilder story = new StringBuilder("run " + run + ":");
-        for (int k = 0; k < calls && !check.isWrong(); k++) {
+        for (int k = 0; k < calls && asked + CALLS_OF_A_TEXT + glances <= MOST_CALLS && !check.isWrong(); k++) {
             long[] answers = oneCall();
             story.append('\n').append(call).append(" = ").append(answers[1]);
-            check.due(call, answers[0], answers[1]);
-            if (!check.isWrong() && (k % 4 == 0 || k == calls - 1)) lookAround();
+            due(call, answers[0], answers[1]);
+            for (int more = 0; more < glances; more++) glance();
         }
+        if (asked + CALLS_OF_A_LOOK <= MOST_CALLS) lookAround();
         if (check.isWrong()) System.out.println(story);
+    }
+
+    private void due(String what, long got, long want) {
+        asked++;
+        check.due(what, got, want);
     }
 
     private int below(int bound) {
@@ -211,10 +223,10 @@ public final class ModelTest {
         long[] answers = {0, 0};
         for (int from = 0; from < text.length(); from += 8) {
             answers = aPut(Check.packed(text.substring(from, Math.min(from + 8, text.length()))));
-            check.due(call, answers[0], answers[1]);
+            due(call, answers[0], answers[1]);
         }
         if (below(3) == 0) return answers;
-        check.due("fault() of " + text, hall.fault(), plain.fault());
+        due("fault() of " + text, hall.fault(), plain.fault());
         call = "carryOut() of " + text;
         return new long[] {hall.carryOut(), plain.carryOut()};
     }
@@ -231,23 +243,47 @@ public final class ModelTest {
         }
     }
 
+    /** Asks for one thing that is there, or beside it. */
+    private void glance() {
+        int stand = between(-1, plain.count(1));
+        int crew = between(-1, plain.count(2));
+        int what = between(-1, 20);
+        switch (below(8)) {
+            case 0: case 1: case 2:
+                due("ofStand(" + stand + ", " + what % 11 + ")", hall.ofStand(stand, what % 11), plain.ofStand(stand, what % 11));
+                break;
+            case 3:
+                due("ofCrew(" + crew + ", " + what % 8 + ")", hall.ofCrew(crew, what % 8), plain.ofCrew(crew, what % 8));
+                break;
+            case 4:
+                due("waitsFor(" + stand + ")", hall.waitsFor(stand), plain.waitsFor(stand));
+                break;
+            case 5:
+                due("load(" + what % 4 + ")", hall.load(what % 4), plain.load(what % 4));
+                break;
+            default:
+                due("count(" + what + ")", hall.count(what), plain.count(what));
+        }
+    }
+
     private void lookAround() {
         int stands = plain.count(1);
         int crews = plain.count(2);
-        for (int s = -1; s <= stands; s++) {
-            for (int what = -1; what <= 10; what++) {
-                check.due("ofStand(" + s + ", " + what + ")", hall.ofStand(s, what), plain.ofStand(s, what));
+        for (int s = 0; s < stands; s++) {
+            for (int what = 0; what < 10; what++) {
+                due("ofStand(" + s + ", " + what + ")", hall.ofStand(s, what), plain.ofStand(s, what));
             }
-            check.due("waitsFor(" + s + ")", hall.waitsFor(s), plain.waitsFor(s));
+            due("waitsFor(" + s + ")", hall.waitsFor(s), plain.waitsFor(s));
         }
-        for (int c = -1; c <= crews; c++) {
-            for (int what = -1; what <= 7; what++) {
-                check.due("ofCrew(" + c + ", " + what + ")", hall.ofCrew(c, what), plain.ofCrew(c, what));
+        for (int c = 0; c < crews; c++) {
+            for (int what = 0; what < 7; what++) {
+                due("ofCrew(" + c + ", " + what + ")", hall.ofCrew(c, what), plain.ofCrew(c, what));
             }
         }
-        for (int phase = -1; phase <= 3; phase++) check.due("load(" + phase + ")", hall.load(phase), plain.load(phase));
-        for (int what = -1; what <= 20; what++) check.due("count(" + what + ")", hall.count(what), plain.count(what));
-        check.due("fault()", hall.fault(), plain.fault());
-        check.due("allIn()", hall.allIn(), plain.allIn());
+        for (int phase = 0; phase < 3; phase++) due("load(" + phase + ")", hall.load(phase), plain.load(phase));
+        for (int what = 0; what < 20; what++) due("count(" + what + ")", hall.count(what), plain.count(what));
+        due("fault()", hall.fault(), plain.fault());
+        due("allIn()", hall.allIn(), plain.allIn());
+        due("leastDock()", hall.leastDock(), plain.leastDock());
     }
 }
