@@ -538,6 +538,13 @@ final class PromiseSentences extends Sentences {
         x.end();
         x.pass(1);
         counts("being dismantled", 3, 0, 0, 0, 0, 0, 1, 0, 0, 1, 0, 7);
+        x = new HallBuilds();
+        crews(2);
+        for (int s = 0; s < 6; s++) x.stand(s == 0 ? 1 : 99, 1, 0, NONE);
+        x.pass(4);
+        for (int s = 6; s < 15; s++) x.stand(99, 5, 0, NONE);
+        x.pass(1);
+        counts("another number of each", 3, 5, 4, 3, 2, 1, 0, 0, 20);
 
         holds("14 stands that are built and without power (of those with a power above 0),");
         x.set(PHASE, 1);
@@ -773,6 +780,19 @@ final class PromiseSentences extends Sentences {
         x.end();
         due("to dismantle", x.withCrew(1), 3);
         due("no crew has come", x.count(2), 1);
+        x = new HallBuilds();
+        x.set(UNLOAD, 1);
+        x.crew(9, 0);
+        x.stand(81, 1, 0, NONE);
+        x.pass(1);
+        x.set(UNLOAD, 9);
+        x.stand(90, 1, 0, NONE);
+        x.pass(1);
+        x.set(UNLOAD, 1);
+        x.stand(9, 1, 0, NONE);
+        x.pass(8);
+        states("crew 0 is done, 1 leaves the dock in the next hour", BUILT, AT_DOCK, READY);
+        due("they take stands in the next hour, and not before", x.withCrew(1), 10);
 
         holds("speed: 1 to 9");
         due("0", x.withCrew(0), BAD_VALUE);

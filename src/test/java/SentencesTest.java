@@ -15,6 +15,7 @@ public final class SentencesTest {
         Document document = new Document();
         new TermSentences(check, document).run();
         new PromiseSentences(check, document).run();
+        new WhatIfSentences(check, document).run();
         if (Document.isThere()) allAreQuoted(check, document);
         check.close();
     }

@@ -532,6 +532,18 @@ final class TermSentences extends Sentences {
         x.pass(1);
         loads("when it is built", 5, 0, 0);
 
+        holds(TERMS, POWER);
+        x.crew(1, 0);
+        x.crew(2, 0);
+        x.stand(2, 1, 50, NONE);
+        x.stand(6, 1, 20, NONE);
+        x.stand(1, 1, 40, NONE);
+        due("two in one hour", x.pass(4), 1);
+        due("two in one hour", x.pass(1), 2);
+        // Crew 0 went on to stand 2, which therefore finds its phase before stand 1 of crew 1 does.
+        onPhases("in one hour, as the crews are numbered", 0, 2, 1);
+        loads("in one hour, as the crews are numbered", 50, 40, 20);
+
         holds(TERMS, "When it begins to be dismantled its power is taken off.");
         powers(5, 6, 7, 8);
         loads("built", 13, 6, 7);
