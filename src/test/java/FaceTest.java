@@ -2,9 +2,13 @@ import java.lang.reflect.Constructor;
 import java.lang.reflect.Field;
 import java.lang.reflect.Method;
 import java.lang.reflect.Modifier;
+import java.nio.file.Files;
+import java.nio.file.Path;
 import java.util.ArrayList;
 import java.util.Arrays;
 import java.util.List;
+import java.util.regex.Matcher;
+import java.util.regex.Pattern;
 
 /** The class has the document's face, and nothing beside it that others could see. */
 public final class FaceTest {
@@ -17,8 +21,15 @@ public final class FaceTest {
         "NO_SUCH=-1", "BAD_VALUE=-2", "BAD_TEXT=-3", "TOO_MANY=-4", "NOT_POSSIBLE=-5", "NONE=-6",
         "DOCK=0", "UNLOAD=1", "PHASE=2"};
 
+    private static final Path DOCUMENT = Path.of("../shared/DOC.md");
+
     public static void main(String[] args) throws Exception {
         Check check = new Check("FaceTest");
+        String told = Files.readString(DOCUMENT).split("```java\n")[1].split("```")[0];
+        check.due("methods told " + toldMethods(told), same(toldMethods(told), METHODS), 1);
+        check.due("constants told " + toldConstants(told), same(toldConstants(told), CONSTANTS), 1);
+        check.due("constructor told", told.contains("public HallBuilds();") ? 1 : 0, 1);
+        check.due("class told", told.startsWith("public final class HallBuilds {\n") ? 1 : 0, 1);
         Class<?> face = HallBuilds.class;
         check.due("public and final", face.getModifiers() & (Modifier.PUBLIC | Modifier.FINAL), 17);
         check.due("methods " + seenMethods(face), same(seenMethods(face), METHODS), 1);
@@ -36,6 +47,25 @@ public final class FaceTest {
             }
         }
         check.close();
+    }
+
+    private static List<String> toldMethods(String face) {
+        List<String> told = new ArrayList<>();
+        Matcher method = Pattern.compile("public (\\w+) (\\w+)\\((.*)\\);").matcher(face);
+        while (method.find()) {
+            String kind = method.group(1).equals("int") ? "" : "odd ";
+            told.add(kind + method.group(2) + "(" + method.group(3).replaceAll(" \\w+(,|$)", "$1").replace(" ", "") + ")");
+        }
+        return told;
+    }
+
+    private static List<String> toldConstants(String face) {
+        List<String> told = new ArrayList<>();
+        Matcher constants = Pattern.compile("public static final int (.*);").matcher(face);
+        while (constants.find()) {
+            for (String constant : constants.group(1).split(", ")) told.add(constant.replace(" ", ""));
+        }
+        return told;
     }
 
     private static List<String> seenMethods(Class<?> face) {
